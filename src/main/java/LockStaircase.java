@@ -510,7 +510,7 @@ public final class LockStaircase {
         final int[] loss = new int[MOST_LOCKS + 1];
         final Tally tally = new Tally();
         final Cause cause = new Cause();
-        /** Whether the latest travel() or wholeDay() was ended by a barred passage. */
+        /** Whether the latest wholeDay() was ended by a barred passage. */
         boolean barred;
 
         /** The tally and the cause stay. */
@@ -695,7 +695,6 @@ public final class LockStaircase {
 
         /** Through all locks from a reach on, till a passage is barred: how many it went through. */
         int travel(int from, boolean up, int size) {
-            barred = false;
             int done = 0;
             int lock = lockFrom(from, up);
             while (hasLock(lock) && done < MOST_LOCKS) {
