@@ -1179,6 +1179,14 @@ public final class PromiseTest {
         due("33 water", x.water(), 6 * 500 + 800);
         due("33 none is full", x.count(5), 0);
         due("33 on from there", x.pass(2), 66);
+        x.locks(1);
+        x.lock(0, 0, 99);
+        Check.tell(x, "a+900,b+900");
+        x.image();
+        due("33 108 again", x.pass(0), 108);
+        due("33 twice", x.tally(108, 2) - x.tally(107, 2), 2);
+        x.undo();
+        due("33 once by the image", x.tally(108, 2) - x.tally(107, 2), 1);
     }
 
     private static void p34Count() {
