@@ -497,6 +497,9 @@ public final class LockStaircase {
 
     /** Locks and reaches with their waters, the tally of what their passages spent, and why one was barred. */
     private static final class Canal {
+        /** A step bears its own number whichever way the boat goes, though down the lock is filled ahead of emptied. */
+        static final int EMPTYING = 1, FILLING = 2, SWAPPING = 3;
+
         /** 1 to MOST_LOCKS, once it was reset or copied: the rows have room for all. */
         int locks;
         int inflow;
@@ -634,8 +637,8 @@ public final class LockStaircase {
             int heldBefore = held[lock];
             boolean fullBefore = full[lock];
             boolean done = up
-                    ? (!full[lock] || empties(lock, 1)) && fills(lock, 2) && swaps(lock, size)
-                    : (full[lock] || fills(lock, 1)) && empties(lock, 2) && swaps(lock, -size);
+                    ? (!full[lock] || empties(lock)) && fills(lock) && swaps(lock, size)
+                    : (full[lock] || fills(lock)) && empties(lock) && swaps(lock, -size);
             if (!done) {
                 level[lock] = levelBelow;
                 level[lock + 1] = levelAbove;
@@ -648,9 +651,9 @@ public final class LockStaircase {
             return spent;
         }
 
-        private boolean fills(int lock, int step) {
+        private boolean fills(int lock) {
             int drawn = lockful[lock] - held[lock];
-            if (isBarred(lock, step, lock + 1, -drawn)) {
+            if (isBarred(lock, FILLING, lock + 1, -drawn)) {
                 return false;
             }
             level[lock + 1] -= drawn;
@@ -659,10 +662,10 @@ public final class LockStaircase {
             return true;
         }
 
-        private boolean empties(int lock, int step) {
+        private boolean empties(int lock) {
             int saved = share(lock);
             int let = lockful[lock] - saved;
-            if (isBarred(lock, step, lock, let)) {
+            if (isBarred(lock, EMPTYING, lock, let)) {
                 return false;
             }
             level[lock] += let;
@@ -672,7 +675,7 @@ public final class LockStaircase {
         }
 
         private boolean swaps(int lock, int goesDown) {
-            if (isBarred(lock, 3, lock + 1, -goesDown) || isBarred(lock, 3, lock, goesDown)) {
+            if (isBarred(lock, SWAPPING, lock + 1, -goesDown) || isBarred(lock, SWAPPING, lock, goesDown)) {
                 return false;
             }
             level[lock + 1] -= goesDown;

@@ -79,14 +79,15 @@ final class Model {
             int[] l = locks.get(lock);
             int water = reaches.get(lock + 1)[0];
             boolean good = true;
-            for (int number = 1; number <= 2 && good; number++) {
-                boolean fills = up == (number == 2);
+            for (int turn = 1; turn <= 2 && good; turn++) {
+                // Up: emptied (1), then filled (2). Down: filled (2), then emptied (1).
+                boolean fills = up == (turn == 2);
                 if (fills && l[3] == 0) {
-                    good = step(lock, number, -(l[0] - l[2]), 0);
+                    good = step(lock, 2, -(l[0] - l[2]), 0);
                     l[2] = 0;
                     l[3] = 1;
                 } else if (!fills && l[3] == 1) {
-                    good = step(lock, number, 0, l[0] - share(lock));
+                    good = step(lock, 1, 0, l[0] - share(lock));
                     l[2] = share(lock);
                     l[3] = 0;
                 }

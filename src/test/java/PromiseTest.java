@@ -24,6 +24,7 @@ public final class PromiseTest {
         p15Through();
         p16Costs();
         p17Why();
+        p17StepBothWays();
         p18Queue();
         p19Orders();
         p20Best();
@@ -522,7 +523,7 @@ public final class PromiseTest {
         due("17 none", x.why(3), NOT);
         due("17 i ahead of none", x.why(4), BAD);
         due("17 i -1", x.why(-1), BAD);
-        // Down with 9: filled (1), emptied (2), 9 up; the reach below would be below its least.
+        // Down with 9: filled (2), emptied (1), 9 up (3); the reach below would be below its least.
         Check.tell(x, "a-902,b-902");
         x.reach(1, 0, 3);
         x.reach(1, 1, 3);
@@ -539,25 +540,66 @@ public final class PromiseTest {
         due("17 above most", x.why(3), 2);
         x.reach(1, 2, 3);
         due("17 emptied", x.pass(1), BARRED);
-        due("17 step 2", x.why(1), 2);
+        due("17 emptying down is step 1", x.why(1), 1);
         due("17 reach 1", x.why(2), 1);
         due("17 above its most", x.why(3), 2);
         x.reach(2, 1, 500);
         due("17 filled", x.pass(1), BARRED);
-        due("17 step 1", x.why(1), 1);
+        due("17 filling down is step 2", x.why(1), 2);
         due("17 reach 2", x.why(2), 2);
         due("17 below its least", x.why(3), 1);
         x.image();
         x.undo();
-        due("17 it stays by undo", x.why(1), 1);
+        due("17 it stays by undo", x.why(1), 2);
         x.reach(2, 1, 0);
         x.reach(2, 2, 9999);
         x.reach(1, 2, 9999);
         x.reach(1, 1, 0);
         x.reach(1, 0, 20);
         x.pass(0);
-        due("17 it stays by a good passage", x.why(1), 1);
+        due("17 it stays by a good passage", x.why(1), 2);
         due("17 i 4", x.why(4), BAD);
+    }
+
+    /** The same step has the same number both ways, by each call that tells it. */
+    private static void p17StepBothWays() {
+        LockStaircase x = new LockStaircase();
+        x.reach(2, 0, 0);
+        due("17 a day down", x.day(0, 1), 0);
+        cause("17 filling down by day()", x, 1, 2, 2, 1);
+        x = new LockStaircase();
+        x.reach(1, 2, 519);
+        due("17 a day down, full below", x.day(0, 1), 0);
+        cause("17 emptying down by day()", x, 1, 1, 1, 2);
+        x = new LockStaircase();
+        Check.tell(x, "a-001,b+000,c-002");
+        x.reach(1, 0, 19);
+        due("17 through, filling down", x.through(0), 0);
+        cause("17 filling down by through()", x, 0, 2, 1, 1);
+        due("17 pass, filling up", x.pass(1), BARRED);
+        cause("17 filling up by pass()", x, 0, 2, 1, 1);
+        x.reach(1, 0, 20);
+        due("17 b goes up", x.pass(1), 20);
+        // Lock 0 is FULL now, so a boat down has no filling: emptying it is still step 1.
+        x.reach(0, 2, 519);
+        due("17 run, emptying down", x.run(0, 0), 0);
+        cause("17 emptying a full lock down by run()", x, 0, 1, 0, 2);
+        Check.tell(x, "d+000");
+        due("17 pass, emptying up", x.pass(3), BARRED);
+        cause("17 emptying a full lock up by pass()", x, 0, 1, 0, 2);
+        x.reach(2, 1, 490);
+        due("17 run, filling up", x.run(1, 3), 0);
+        cause("17 filling up by run()", x, 1, 2, 2, 1);
+        x.leaves(1);
+        due("17 run, filling down", x.run(1, 3), 0);
+        cause("17 filling down by run()", x, 1, 2, 2, 1);
+    }
+
+    private static void cause(String about, LockStaircase x, int lock, int step, int reach, int side) {
+        due(about + ": lock", x.why(0), lock);
+        due(about + ": step", x.why(1), step);
+        due(about + ": reach", x.why(2), reach);
+        due(about + ": side", x.why(3), side);
     }
 
     private static void p18Queue() {
