@@ -103,6 +103,12 @@ public final class EdgesOfAccountsTest extends Edges {
         due(x.levels(-1), 2);
         due(x.levels(0), 0);
         due(x.levels(1), 9999);
+        x.reach(0, 0, 0);
+        due(x.levels(-1), 1);
+        x.reach(1, 0, 9999);
+        due(x.levels(-1), 2);
+        due(x.levels(0), 0);
+        due(x.levels(1), 9999);
     }
 
     /** "Unlike WATERS of REACHES": of those that are there. */
@@ -246,6 +252,16 @@ public final class EdgesOfAccountsTest extends Edges {
         due(x.pays(MOST, 1), OVER);
         due(x.pays(1, 0), 1);
         due(x.account(), MOST);
+    }
+
+    /** "OVER (-7): it would be no long": the sum of two alike, a third of all that bits can tell each. */
+    static void p30SumOfTwoAlike() {
+        LockStaircase x = new LockStaircase();
+        due(x.pays(3, 0x1C71C71C71C71C71L), 1);
+        x.pays(2, 1);
+        due(x.account(), 0x5555555555555555L);
+        due(x.pays(1, 0x5555555555555555L), OVER);
+        due(x.account(), 0x5555555555555555L);
     }
 
     /** "OVER (-7): it would be no long": the sum, below the least. */
@@ -397,6 +413,22 @@ public final class EdgesOfAccountsTest extends Edges {
         due(x.ofReach(2, 0), BAD);
     }
 
+    /** "All is as THE IMAGE": all of THE SUMMIT of six LOCKS, the highest REACH there can be. */
+    static void p33HighestReachOfTheImage() {
+        LockStaircase x = canal(6, "");
+        x.reach(6, 0, 450);
+        x.reach(6, 1, 400);
+        x.reach(6, 2, 600);
+        x.reach(6, 3, 30);
+        x.image();
+        x.locks(6);
+        x.undo();
+        due(x.ofReach(6, 0), 450);
+        due(x.ofReach(6, 1), 400);
+        due(x.ofReach(6, 2), 600);
+        due(x.ofReach(6, 3), 30);
+    }
+
     /** "All is as THE IMAGE": more than once, "STATE: there is none" else. */
     static void p33MoreThanOnce() {
         LockStaircase x = canal(1, "a+000");
@@ -413,10 +445,12 @@ public final class EdgesOfAccountsTest extends Edges {
     static void p33TallyOfTheImage() {
         LockStaircase x = canal(1, "a+900,b-001");
         x.lock(0, 0, 99);
-        x.pass(0);
+        due(x.pass(0), 108);
         x.image();
-        x.pass(1);
-        due(x.count(3), 2);
+        due(x.pass(1), 0);
+        tell(x, "a+900");
+        due(x.pass(0), 108);
+        due(x.count(3), 3);
         x.undo();
         due(x.count(3), 1);
         due(x.tally(-1, 0), 1);

@@ -108,6 +108,17 @@ public final class EdgesOfDaysTest extends Edges {
         }
     }
 
+    /** "FEED (0 .. 999 a DAY ..)", "LOSS of a REACH (0 .. 99 a DAY ..)": the most of both. */
+    static void p24MostFeedAndLoss() {
+        LockStaircase x = canal(1, "");
+        x.feeds(999);
+        x.reach(1, 3, 99);
+        x.reach(0, 3, 99);
+        x.day(0, 0);
+        due(x.ofReach(1, 0), 1400);
+        due(x.ofReach(0, 0), 401);
+    }
+
     /** "each REACH loses its LOSS ..; FEED comes to THE SUMMIT ..; then": LOSS is ahead of FEED. */
     static void p24LossAheadOfFeed() {
         LockStaircase x = canal(1, "");
@@ -319,7 +330,7 @@ public final class EdgesOfDaysTest extends Edges {
         due(x.dry(4, 0, 0), 1);
     }
 
-    /** "DAYS with LOSS and FEED": a DAY in thought has both. */
+    /** "days with feed, loss and traffic": a DAY in thought has all of them. */
     static void p25LossAndFeed() {
         LockStaircase x = canal(1, "");
         x.reach(1, 0, 100);
@@ -378,6 +389,14 @@ public final class EdgesOfDaysTest extends Edges {
         due(x.pond(2, 0, 3), 0);
         due(x.pond(2, 0, 4), NOT);
         due(x.pond(2, 0, 20), NOT);
+    }
+
+    /** "The LOCK by which": that of THE SUMMIT draws from it, the highest of any number of LOCKS. */
+    static void p26HighestLock() {
+        for (int n = 1; n <= 6; n++) {
+            LockStaircase x = canal(n, "");
+            due(x.pond(2, 0, 1), n - 1);
+        }
     }
 
     /** "NOT": without TRAFFIC no POND saves any. */

@@ -117,6 +117,15 @@ public final class EdgesOfQueuesTest extends Edges {
         due(x.queue(0, 22), 5);
     }
 
+    /** "in each the greatest RANK is first": whichever the order of their NAMES. */
+    static void p18RanksAmongNames() {
+        LockStaircase x = canal(1, "a+050,b+030,c+040,d+090,e+000,f+030");
+        int[] boats = {3, 0, 2, 1, 5, 4};
+        for (int i = 0; i < boats.length; i++) {
+            due(x.queue(0, i), boats[i]);
+        }
+    }
+
     /** "of alike ones the least NAME", "one that another begins with ahead of that (.. in QUEUES ..)" */
     static void p18LeastNameOfAlikeRanks() {
         LockStaircase x = canal(1, "b+050,ab+050,a+050,abc+050,c+060");
@@ -167,6 +176,17 @@ public final class EdgesOfQueuesTest extends Edges {
         x.reach(1, 1, 461);
         due(x.orders(0), 1);
         x.reach(1, 1, 460);
+        due(x.orders(0), 2);
+    }
+
+    /** "one after the other": each ORDER from the LOCK, its PONDS and its REACHES as they are now. */
+    static void p19EachFromNow() {
+        LockStaircase x = canal(1, "a+000,b-001");
+        x.lock(0, 1, 2);
+        // a b spends 20; b a 30, as the ponds hold nothing before b.
+        x.reach(1, 0, 29);
+        due(x.orders(0), 1);
+        x.reach(1, 0, 30);
         due(x.orders(0), 2);
     }
 
@@ -657,7 +677,7 @@ public final class EdgesOfQueuesTest extends Edges {
         due(wentThrough(x), 901);
     }
 
-    /** "The QUEUES of a RUN .. are those at its begin: who went through does not come into the other one." */
+    /** "The QUEUES of a RUN .. are those at its begin: who went through does not come into the other one" */
     static void p22QueuesAtItsBegin() {
         for (int rule = 0; rule <= 3; rule++) {
             LockStaircase x = canal(2, "a+000,b-001,c+001,d-002");
